@@ -5,9 +5,9 @@
 public final class HiveYard {
     public static final int BAD = -1;
 
-    private static final long BAD_LONG = Long.MIN_VALUE;
+    private static final long BAD_LONG = -9223372036854775808L;
     private static final int REFUSAL = -10;
-    private static final long REFUSAL_LONG = Long.MIN_VALUE + 100 + REFUSAL;
+    private static final long REFUSAL_LONG = BAD_LONG + 100 + REFUSAL;
 
     private static final int SHELVES = 16;
     private static final int MOST_SLOTS = 30;
@@ -497,12 +497,10 @@ public final class HiveYard {
             super(SMOKER, care);
         }
 
-        @Override
         boolean canCareFor(Frame[] row) {
             return true;
         }
 
-        @Override
         int careFor(Frame[] row, int n) {
             care += n;
             return care;
@@ -514,12 +512,10 @@ public final class HiveYard {
             super(FEEDER, care);
         }
 
-        @Override
         boolean canCareFor(Frame[] row) {
             return row != null;
         }
 
-        @Override
         int careFor(Frame[] row, int n) {
             int fed = 0;
             for (int i = 0; i < row.length; i++) {

@@ -20,7 +20,7 @@ public final class HiveYardFace {
         "int sort(int)", "long told(int,int)", "int same(int,int)", "int count(int)",
     };
     private static final Pattern RULED_OUT = Pattern.compile(
-        "\\b(throw|throws|try|catch|synchronized|assert|import|package|equals|hashCode|toString|\\w+Exact)\\b|->|::");
+        "\\b(throw|throws|try|catch|synchronized|assert|import|package|equals|hashCode|toString|\\w+Exact)\\b|->|::|@");
 
     private static int wrong = 0;
 
