@@ -184,11 +184,10 @@ public final class HiveYard {
         if (!isShelf(shelf) || !isShelf(to)) {
             return BAD;
         }
-        Hive hive = asHive(shelves[shelf]);
-        if (hive == null || hive.row == null) {
+        Frame[] row = rowOf(asHive(shelves[shelf]));
+        if (row == null) {
             return refuse(castOrNull(shelves[shelf]));
         }
-        Frame[] row = hive.row;
         if (!isIndex(i, row.length)) {
             return refuse(INDEX);
         }
@@ -202,11 +201,10 @@ public final class HiveYard {
         if (!isShelf(shelf)) {
             return BAD_LONG;
         }
-        Hive hive = asHive(shelves[shelf]);
-        if (hive == null || hive.row == null) {
+        Frame[] row = rowOf(asHive(shelves[shelf]));
+        if (row == null) {
             return refuseLong(castOrNull(shelves[shelf]));
         }
-        Frame[] row = hive.row;
         if (!isIndex(i, row.length)) {
             return refuseLong(INDEX);
         }
@@ -281,11 +279,10 @@ public final class HiveYard {
         if (!isShelf(shelf) || v < 1) {
             return BAD_LONG;
         }
-        Hive hive = asHive(shelves[shelf]);
-        if (hive == null || hive.row == null) {
+        Frame[] row = rowOf(asHive(shelves[shelf]));
+        if (row == null) {
             return refuseLong(castOrNull(shelves[shelf]));
         }
-        Frame[] row = hive.row;
         // An int, since the document lets all numbers wrap as ints.
         int went = 0;
         for (int i = 0; i < row.length; i++) {
@@ -407,6 +404,10 @@ public final class HiveYard {
 
     private static Hive asHive(Thing thing) {
         return thing instanceof Hive hive ? hive : null;
+    }
+
+    private static Frame[] rowOf(Hive hive) {
+        return hive == null ? null : hive.row;
     }
 
     private static Frame asFrame(Thing thing) {

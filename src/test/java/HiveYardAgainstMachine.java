@@ -39,8 +39,9 @@ public final class HiveYardAgainstMachine {
                 System.out.println("run " + run + ", call " + n + ": " + call + " answered " + got + ", due is " + want);
             }
         }
+        // Asked of the other yard, since this one has had its 512 calls.
         for (int kind = 1; kind <= 6; kind++) {
-            kinds[kind] += yard.count(kind);
+            kinds[kind] += machine.counts[kind];
         }
     }
 
